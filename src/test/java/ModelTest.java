@@ -8,6 +8,8 @@ public final class ModelTest {
     private Model model;
     private int span;
     private int greatest;
+    /** Of a hundred calls, how many define a value, how many define a formula, and how many ask. */
+    private int[] shares;
     private String pending = "";
 
     private ModelTest() {
@@ -27,8 +29,9 @@ public final class ModelTest {
         cells = new RememberedCells();
         model = new Model();
         pending = "";
-        span = 2 + draw(9);
-        greatest = new int[] {1, 3, 9, 1000, 99999}[draw(5)];
+        span = draw(4) == 0 ? 2 + draw(8) : 10;
+        greatest = new int[] {1, 3, 9, 1000, 31623, 99999}[draw(6)];
+        shares = new int[][] {{12, 14, 24}, {6, 6, 35}, {10, 2, 40}, {3, 8, 45}}[draw(4)];
         StringBuilder calls = new StringBuilder();
         for (int i = 0; i < CALLS && !checks.hasFailed(); i++) {
             int before = calls.length();
@@ -53,7 +56,7 @@ public final class ModelTest {
     }
 
     private int drawCell() {
-        return seldom() ? new int[] {-1, 10, Integer.MIN_VALUE, Integer.MAX_VALUE}[draw(4)] : draw(Math.min(span, 10));
+        return seldom() ? new int[] {-1, 10, Integer.MIN_VALUE, Integer.MAX_VALUE}[draw(4)] : draw(span);
     }
 
     private int drawValue() {
@@ -75,18 +78,19 @@ public final class ModelTest {
             return both(cells.type(character), model.type(character));
         }
         int kind = draw(100);
-        if (kind < 12) {
+        int asks = shares[0] + shares[1] + shares[2];
+        if (kind < shares[0]) {
             return callDefine(told);
         }
-        if (kind < 26) {
+        if (kind < shares[0] + shares[1]) {
             return callFormula(told);
         }
-        if (kind < 50) {
-            int cell = drawCell();
+        if (kind < asks) {
+            int cell = drawAsked();
             told.append("ask ").append(cell);
             return both(cells.ask(cell), model.ask(cell));
         }
-        return kind < 66 ? callChange(told) : callQuestion(told);
+        return kind < asks + 11 ? callChange(told) : callQuestion(told);
     }
 
     private static int[] both(int got, int want) {
@@ -94,29 +98,43 @@ public final class ModelTest {
     }
 
     private int[] callDefine(StringBuilder told) {
-        int cell = drawCell();
+        int cell = draw(4) > 0 ? draw(3) : drawCell();
         int value = drawValue();
         told.append("define ").append(cell).append(' ').append(value);
         return both(cells.define(cell, value), model.define(cell, value));
     }
 
-    private int[] callFormula(StringBuilder told) {
+    /** A cell for a formula of this cell: mostly a lower one, so that not all comes to rings. */
+    private int drawUsed(int cell) {
+        return cell <= 0 || cell > 9 || draw(20) == 0 ? draw(10) : draw(cell);
+    }
+
+    /** A cell for a formula: seldom one of the lowest, which mostly stay values. */
+    private int drawDefined() {
         int cell = drawCell();
+        return cell >= 0 && cell < 3 && draw(8) > 0 ? 3 + draw(7) : cell;
+    }
+
+    /** A cell to ask or to forget: mostly one that is a formula. */
+    private int drawAsked() {
+        return draw(3) > 0 ? 3 + draw(7) : drawCell();
+    }
+
+    private int[] callFormula(StringBuilder told) {
+        int cell = drawDefined();
         int kind = drawUpTo(4);
-        // Mostly of lower cells, so that not all comes to rings.
-        int below = Math.max(1, draw(5) == 0 ? Math.min(span, 10) : Math.min(Math.max(cell, 1), 10));
-        int x = seldom() ? drawCell() : draw(below);
-        int y = seldom() ? drawCell() : draw(below);
-        int z = kind == 4 || seldom() ? draw(below) + (seldom() ? 10 : 0) : 0;
+        int x = seldom() ? drawCell() : drawUsed(cell);
+        int y = seldom() ? drawCell() : drawUsed(cell);
+        int z = kind == 4 || seldom() ? drawUsed(cell) + (seldom() ? 10 : 0) : 0;
         told.append("formula ").append(cell).append(' ').append(kind).append(' ').append(x).append(' ').append(y)
             .append(' ').append(z);
         return both(cells.formula(cell, kind, x, y, z), model.formula(cell, kind, x, y, z));
     }
 
     private int[] callChange(StringBuilder told) {
-        int kind = draw(12);
+        int kind = draw(14);
         if (kind < 3) {
-            int cell = drawCell();
+            int cell = drawAsked();
             told.append("forget ").append(cell);
             return both(cells.forget(cell), model.forget(cell));
         }
@@ -125,15 +143,15 @@ public final class ModelTest {
             told.append("bound ").append(bound);
             return both(cells.bound(bound), model.bound(bound));
         }
-        if (kind < 7) {
+        if (kind < 9) {
             told.append("undo");
             return both(cells.undo(), model.undo());
         }
-        if (kind == 7) {
+        if (kind < 11) {
             told.append("clearText");
             return both(cells.clearText(), model.clearText());
         }
-        if (kind < 10) {
+        if (kind < 13) {
             told.append("play");
             return both(cells.play(), model.play());
         }
@@ -147,21 +165,22 @@ public final class ModelTest {
     /** A definition, mostly well formed. */
     private String drawText() {
         StringBuilder text = new StringBuilder();
-        text.append((char) ('a' + draw(10))).append('=');
         int kind = draw(7);
+        int cell = kind < 2 && draw(4) > 0 ? draw(3) : 3 + draw(7);
+        text.append((char) ('a' + cell)).append('=');
         if (kind < 2) {
             text.append(draw(3) == 0 ? "-" : "").append(draw(5) == 0 ? "0" : "");
             text.append(draw(3) == 0 ? draw(200000) : draw(10));
         } else {
-            text.append((char) ('a' + draw(10))).append("+-*^?".charAt(kind - 2)).append((char) ('a' + draw(10)));
+            text.append((char) ('a' + drawUsed(cell))).append("+-*^?".charAt(kind - 2))
+                .append((char) ('a' + drawUsed(cell)));
             if (kind == 6) {
-                text.append(':').append((char) ('a' + draw(10)));
+                text.append(':').append((char) ('a' + drawUsed(cell)));
             }
         }
         text.append(';');
         if (draw(12) == 0) {
-            text.setCharAt(draw(text.length()), "a=1;+-*^?:kA 0/`@9"
-                .charAt(draw(18)));
+            text.setCharAt(draw(text.length()), "a=1;+-*^?:kA 0/`@9".charAt(draw(18)));
         }
         if (draw(12) == 0) {
             text.setLength(1 + draw(text.length()));
@@ -171,7 +190,7 @@ public final class ModelTest {
 
     private int[] callQuestion(StringBuilder told) {
         int kind = draw(20);
-        int cell = drawCell();
+        int cell = drawAsked();
         int what = drawUpTo(new int[] {4, 2, 6, 6, 4, 9, 9, 1, 9, 0}[kind / 2]);
         told.append("question ").append(kind).append(' ').append(cell).append(' ').append(what);
         switch (kind / 2) {
