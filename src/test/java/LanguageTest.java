@@ -34,6 +34,7 @@ public final class LanguageTest {
         checks.isTrue("no text beside constants", !code.contains("\""));
         checkLoops(checks, code);
         checkStatics(checks, code);
+        checkObjects(checks, code);
         checkMethods(checks, code.split("\n"));
         checks.isTrue("few classes", count(code, "\\bclass ") <= MOST_CLASSES);
         checks.end();
@@ -65,6 +66,16 @@ public final class LanguageTest {
         for (String line : code.split("\n")) {
             if (line.contains(" static ") && line.endsWith(";")) {
                 checks.isTrue("a constant: " + line.trim(), line.matches(" *(public|private) static final int [A-Z_]+ = .*"));
+            }
+        }
+    }
+
+    /** The room is small, so objects are made with the object alone: for its fields, and for the rows of them. */
+    private static void checkObjects(Checks checks, String code) {
+        for (String line : code.split("\n")) {
+            if (line.matches(".*\\bnew\\b.*")) {
+                checks.isTrue("made once: " + line.trim(),
+                    line.matches(" *(private )?final .* = new .*| *\\w+\\[i\\] = new (Cell|State)\\(\\);"));
             }
         }
     }

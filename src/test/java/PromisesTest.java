@@ -29,6 +29,8 @@ public final class PromisesTest {
         test.define();
         test.formula();
         test.formulaRefusals();
+        test.definitionsOfBothKinds();
+        test.firstAndLastCell();
         test.cellOf();
         test.ask();
         test.limits();
@@ -183,6 +185,36 @@ public final class PromisesTest {
         due("a sum of a after it", x.formula(9, SUM, 0, 0, 0), 17);
     }
 
+    private void definitionsOfBothKinds() {
+        RememberedCells x = new RememberedCells();
+        x.formula(0, CHOICE, 1, 2, 3);
+        x.define(5, 7);
+        x.formula(0, CHOICE, 4, 6, 7);
+        due("a value as it is, between formulas", x.define(5, 7), 3);
+        x.define(5, 8);
+        due("a formula as it is, between values", x.formula(0, CHOICE, 4, 6, 7), 4);
+        write(x, "e=f*g;d=8;");
+        x.play();
+        due("a formula as it was played", x.formula(4, PRODUCT, 5, 6, 0), 6);
+        due("a value as it was played", x.define(3, 8), 6);
+    }
+
+    private void firstAndLastCell() {
+        RememberedCells x = played("a=b+c;j=a+a;");
+        x.ask(9);
+        due("a and j are formulas", x.which(0), 513);
+        due("a and j are remembered", x.which(1), 513);
+        due("so two are", x.count(1), 2);
+        due("a ahead of j", x.rememberedOf(0, 6) * 10 + x.rememberedOf(9, 6), 1);
+        due("c is used for both", x.usedBy(2), 513);
+        due("a, b and c are used for j", x.used(9), 7);
+        x.bound(1);
+        x.ask(9);
+        due("a is forgotten", x.which(1), 512);
+        x.ask(0);
+        due("j is forgotten", x.which(1), 1);
+    }
+
     private void formulaRefusals() {
         RememberedCells x = played("a=7;b=-3;c=a+b;");
         x.ask(2);
@@ -289,6 +321,12 @@ public final class PromisesTest {
         write(x, "g=b?g:g;");
         x.play();
         due("too great ahead of a ring", x.ask(6), GREAT);
+        write(x, "g=b*h;h=h-h;h=0;");
+        x.play();
+        due("too great times 0", x.ask(6), GREAT);
+        write(x, "g=h*b;");
+        x.play();
+        due("0 times too great", x.ask(6), GREAT);
     }
 
     private void keptAnswers() {
@@ -507,6 +545,8 @@ public final class PromisesTest {
         due("and forgotten", x.count(1), 0);
         due("all forgotten", x.count(5), 3);
         due("bound(10)", x.bound(10), 0);
+        due("bound(9)", x.bound(9), 10);
+        due("bound(10) again", x.bound(10), 9);
         for (int bad : new int[] {-1, 11, Integer.MIN_VALUE, Integer.MAX_VALUE}) {
             refused("bound(" + bad + ")", c -> c.bound(bad), INVALID);
         }
@@ -607,6 +647,8 @@ public final class PromisesTest {
             refused("usedBy(" + bad + ")", c -> c.usedBy(bad), INVALID);
         }
         x.ask(2);
+        due("used for c, which is remembered", x.used(2), 1 + 2 + 8 + 32);
+        due("a is used for, c being remembered", x.usedBy(0), 2 + 4 + 256);
         x.define(0, 0);
         due("worked out afresh, e is chosen now", x.used(2), 1 + 2 + 16 + 64);
         due("and g used for c", x.usedBy(6), 4 + 16 + 256);
@@ -645,7 +687,10 @@ public final class PromisesTest {
         x.define(2, 3);
         x.bound(1);
         x.ask(4);
-        int[] due = {5, 1, 5, 1, 4, 1, 1, 1, 4, 18};
+        x.define(3, 1);
+        x.cost(4, 0);
+        x.fresh(4);
+        int[] due = {6, 1, 5, 1, 4, 1, 1, 1, 4, 18};
         for (int what = 0; what < due.length; what++) {
             due("count(" + what + ")", x.count(what), due[what]);
         }
@@ -778,6 +823,9 @@ public final class PromisesTest {
         fault("a=b;", 0, 3);
         fault("a=b/c;", 0, 3);
         fault("a=1+b;", 0, 3);
+        fault("a=b+;", 0, 4);
+        fault("a=b?;", 0, 4);
+        fault("a=b?c:;", 0, 6);
         fault("a=b+1;", 0, 4);
         fault("a=b+k;", 0, 4);
         fault("a=b+c+d;", 0, 5);
@@ -818,6 +866,10 @@ public final class PromisesTest {
         x.undo();
         due("undo play()", x.undo(), 2);
         due("as before both", x.count(0), 8);
+        x.define(0, 77);
+        x.play();
+        due("undo play() behind define", x.undo(), 3);
+        due("the value that was defined", x.cellOf(0, 1), 77);
         x = played("j=99999;i=-99999;");
         due("the greatest number", x.fresh(9), 99999);
         due("the least number", x.fresh(8), -99999);
