@@ -189,9 +189,9 @@ public final class ModelTest {
     }
 
     private int[] callQuestion(StringBuilder told) {
-        int kind = draw(20);
+        int kind = draw(22);
         int cell = drawAsked();
-        int what = drawUpTo(new int[] {4, 2, 6, 6, 4, 9, 9, 1, 9, 0}[kind / 2]);
+        int what = drawUpTo(new int[] {4, 2, 6, 6, 4, 9, 9, 1, 9, 0, 0}[kind / 2]);
         told.append("question ").append(kind).append(' ').append(cell).append(' ').append(what);
         switch (kind / 2) {
             case 0:
@@ -210,8 +210,11 @@ public final class ModelTest {
                 return both(cells.fault(what), model.fault(what));
             case 8:
                 return callWould(told, cell);
+            case 9:
+                return both(cells.fresh(cell), model.fresh(cell));
             default:
-                return kind == 18 ? callUsed(cell) : both(cells.fresh(cell), model.fresh(cell));
+                return kind == 20 ? both(cells.used(cell), model.used(cell))
+                    : both(cells.usedBy(cell), model.usedBy(cell));
         }
     }
 
@@ -220,11 +223,5 @@ public final class ModelTest {
         int asked = drawCell();
         told.append(" would ").append(value).append(' ').append(asked);
         return both(cells.would(cell, value, asked), model.would(cell, value, asked));
-    }
-
-    private int[] callUsed(int cell) {
-        int got = cells.used(cell);
-        int want = model.used(cell);
-        return got != want ? both(got, want) : both(cells.usedBy(cell), model.usedBy(cell));
     }
 }

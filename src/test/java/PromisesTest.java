@@ -64,19 +64,8 @@ public final class PromisesTest {
         checks.due(call, got, want);
     }
 
-    /** Has something of everything: answers, too great ones, a ring in f, a full history, and a faulty text. */
-    private static RememberedCells rich() {
-        RememberedCells x = played("a=3;b=a+a;c=b+b;d=99999;e=d*d;f=f+a;");
-        x.ask(2);
-        x.ask(4);
-        x.define(0, 4);
-        x.bound(1);
-        write(x, "a=6;b=7;c=d");
-        return x;
-    }
-
     private void refused(String call, ToIntFunction<RememberedCells> asked, int want) {
-        refused(call, PromisesTest::rich, asked, want);
+        refused(call, Scenes::rich, asked, want);
     }
 
     /** Checks a call that is to return an error: its answer, and that nothing changed by it, history included. */
@@ -97,20 +86,6 @@ public final class PromisesTest {
             called.undo();
         }
         checks.due(call + ", the oldest state behind it,", Look.at(called), Look.at(other));
-    }
-
-    private static void write(RememberedCells x, String text) {
-        x.clearText();
-        for (int i = 0; i < text.length(); i++) {
-            x.type(text.charAt(i));
-        }
-    }
-
-    private static RememberedCells played(String text) {
-        RememberedCells x = new RememberedCells();
-        write(x, text);
-        x.play();
-        return x;
     }
 
     // ---- promises 1 to 4
@@ -158,7 +133,7 @@ public final class PromisesTest {
     }
 
     private void formula() {
-        RememberedCells x = played("a=7;b=-3;");
+        RememberedCells x = Scenes.played("a=7;b=-3;");
         due("formula a+b", x.formula(2, SUM, 0, 1, 0), 3);
         due("formula a-b", x.formula(3, DIFFERENCE, 0, 1, 0), 4);
         due("formula a*b", x.formula(4, PRODUCT, 0, 1, 0), 5);
@@ -193,14 +168,14 @@ public final class PromisesTest {
         due("a value as it is, between formulas", x.define(5, 7), 3);
         x.define(5, 8);
         due("a formula as it is, between values", x.formula(0, CHOICE, 4, 6, 7), 4);
-        write(x, "e=f*g;d=8;");
+        Scenes.write(x, "e=f*g;d=8;");
         x.play();
         due("a formula as it was played", x.formula(4, PRODUCT, 5, 6, 0), 6);
         due("a value as it was played", x.define(3, 8), 6);
     }
 
     private void firstAndLastCell() {
-        RememberedCells x = played("a=b+c;j=a+a;");
+        RememberedCells x = Scenes.played("a=b+c;j=a+a;");
         x.ask(9);
         due("a and j are formulas", x.which(0), 513);
         due("a and j are remembered", x.which(1), 513);
@@ -216,7 +191,7 @@ public final class PromisesTest {
     }
 
     private void formulaRefusals() {
-        RememberedCells x = played("a=7;b=-3;c=a+b;");
+        RememberedCells x = Scenes.played("a=7;b=-3;c=a+b;");
         x.ask(2);
         for (int bad : NO_CELLS) {
             refused("formula with cell " + bad, c -> c.formula(bad, SUM, 0, 0, 0), INVALID);
@@ -234,7 +209,7 @@ public final class PromisesTest {
     }
 
     private void cellOf() {
-        RememberedCells x = played("a=5;b=c-d;e=f?g:h;i=j^a;");
+        RememberedCells x = Scenes.played("a=5;b=c-d;e=f?g:h;i=j^a;");
         int[][] due = {
             {0, 0, 5, MISSING, MISSING, MISSING},
             {1, 2, MISSING, 2, 3, MISSING},
@@ -260,7 +235,7 @@ public final class PromisesTest {
     // ---- promise 5
 
     private void ask() {
-        RememberedCells x = played("a=3;b=4;c=a+b;d=c*c;");
+        RememberedCells x = Scenes.played("a=3;b=4;c=a+b;d=c*c;");
         due("ask a value", x.ask(0), 3);
         due("it is a change", x.count(8), 2);
         due("it is no work", x.count(2) + x.count(3) + x.count(4), 0);
@@ -277,7 +252,7 @@ public final class PromisesTest {
     }
 
     private void limits() {
-        RememberedCells x = played("a=31622;b=20000;c=50000;d=b*c;e=a-b;f=1;g=d+f;");
+        RememberedCells x = Scenes.played("a=31622;b=20000;c=50000;d=b*c;e=a-b;f=1;g=d+f;");
         due("1000000000 itself", x.ask(3), 1000000000);
         due("one more", x.ask(6), GREAT);
         x.define(5, -1);
@@ -287,11 +262,11 @@ public final class PromisesTest {
         due("one below", x.ask(6), GREAT);
         x.define(5, 1);
         due("one above", x.ask(6), -999999999);
-        x = played("a=99999;b=20000;c=50000;d=b*c;e=d*d;f=d+d;g=a*a;");
+        x = Scenes.played("a=99999;b=20000;c=50000;d=b*c;e=d*d;f=d+d;g=a*a;");
         due("far beyond int, a product", x.ask(4), GREAT);
         due("2000000000 made by a sum", x.ask(5), GREAT);
         due("a product that wraps in int", x.ask(6), GREAT);
-        x = played("b=-32000;c=31250;d=b*c;e=d+d;f=d*d;g=d^a;h=a-d;");
+        x = Scenes.played("b=-32000;c=31250;d=b*c;e=d+d;f=d*d;g=d^a;h=a-d;");
         due("-2000000000 made by a sum", x.ask(4), GREAT);
         due("a product of two negative ones", x.ask(5), GREAT);
         due("the greater one of them and 0", x.ask(6), 0);
@@ -299,7 +274,7 @@ public final class PromisesTest {
     }
 
     private void greatAnswers() {
-        RememberedCells x = played("a=99999;b=a*a;c=b^d;d=1;e=b?a:d;f=d?b:a;");
+        RememberedCells x = Scenes.played("a=99999;b=a*a;c=b^d;d=1;e=b?a:d;f=d?b:a;");
         due("ask too great", x.ask(1), GREAT);
         due("it is a change", x.count(8), 2);
         due("it is remembered", x.rememberedOf(1, 0), GREAT);
@@ -315,22 +290,22 @@ public final class PromisesTest {
         due("too great is the same as too great", x.count(7), same + 1);
         due("so the choice is kept", x.rememberedOf(4, 1), 6);
         due("though seen now", x.rememberedOf(4, 2), 7);
-        write(x, "g=b+g;");
+        Scenes.write(x, "g=b+g;");
         x.play();
         due("too great and a ring", x.ask(6), IMPOSSIBLE);
-        write(x, "g=b?g:g;");
+        Scenes.write(x, "g=b?g:g;");
         x.play();
         due("too great ahead of a ring", x.ask(6), GREAT);
-        write(x, "g=b*h;h=h-h;h=0;");
+        Scenes.write(x, "g=b*h;h=h-h;h=0;");
         x.play();
         due("too great times 0", x.ask(6), GREAT);
-        write(x, "g=h*b;");
+        Scenes.write(x, "g=h*b;");
         x.play();
         due("0 times too great", x.ask(6), GREAT);
     }
 
     private void keptAnswers() {
-        RememberedCells x = played("a=3;b=4;c=a+b;d=c*c;");
+        RememberedCells x = Scenes.played("a=3;b=4;c=a+b;d=c*c;");
         x.ask(3);
         x.define(0, 4);
         x.define(1, 3);
@@ -357,7 +332,7 @@ public final class PromisesTest {
     }
 
     private void lookedAtAgain() {
-        RememberedCells x = played("a=1;b=2;c=a+a;d=b+b;e=c+d;");
+        RememberedCells x = Scenes.played("a=1;b=2;c=a+a;d=b+b;e=c+d;");
         x.ask(4);
         x.define(0, 5);
         due("the first used cell changed", x.ask(4), 14);
@@ -373,7 +348,7 @@ public final class PromisesTest {
         due("c changed later than e was seen", x.ask(4), 18);
         due("c kept, then e worked out with d kept", x.count(2) * 100 + x.count(3), 904);
         due("c taken by the second look", x.count(4), 4);
-        x = played("a=1;b=a+j;c=b+j;");
+        x = Scenes.played("a=1;b=a+j;c=b+j;");
         x.ask(2);
         x.define(0, 2);
         x.ask(1);
@@ -385,7 +360,7 @@ public final class PromisesTest {
     }
 
     private void choices() {
-        RememberedCells x = played("a=1;b=5;c=6;d=b+b;e=c+c;f=a?d:e;");
+        RememberedCells x = Scenes.played("a=1;b=5;c=6;d=b+b;e=c+c;f=a?d:e;");
         due("above 0", x.ask(5), 10);
         due("d alone is worked out", x.which(1), 8 + 32);
         x.define(0, 0);
@@ -404,7 +379,7 @@ public final class PromisesTest {
     }
 
     private static RememberedCells withRing() {
-        return played("a=b+b;b=a+a;c=d?a:e;e=4;f=e+e;g=f+a;");
+        return Scenes.played("a=b+b;b=a+a;c=d?a:e;e=4;f=e+e;g=f+a;");
     }
 
     private void rings() {
@@ -419,9 +394,9 @@ public final class PromisesTest {
         x.define(3, 0);
         due("not chosen again", x.ask(2), 4);
         refused("nothing is forgotten by a ring", c -> c.ask(5), IMPOSSIBLE);
-        x = played("a=a-a;");
+        x = Scenes.played("a=a-a;");
         due("a cell of itself", x.ask(0), IMPOSSIBLE);
-        x = played("a=b+b;b=c+c;c=d+d;d=e+e;e=f+f;f=g+g;g=h+h;h=i+i;i=j+j;j=1;");
+        x = Scenes.played("a=b+b;b=c+c;c=d+d;d=e+e;e=f+f;f=g+g;g=h+h;h=i+i;i=j+j;j=1;");
         due("the longest chain", x.ask(0), 512);
         x.formula(9, SUM, 0, 0, 0);
         due("the longest ring", x.ask(5), IMPOSSIBLE);
@@ -433,7 +408,7 @@ public final class PromisesTest {
     // ---- promises 6 and 7
 
     private void fresh() {
-        RememberedCells x = played("a=3;b=a*a;c=99999;d=c*c;e=e+a;");
+        RememberedCells x = Scenes.played("a=3;b=a*a;c=99999;d=c*c;e=e+a;");
         x.ask(1);
         x.define(0, 4);
         due("fresh a value", x.fresh(0), 4);
@@ -452,7 +427,7 @@ public final class PromisesTest {
     }
 
     private void cost() {
-        RememberedCells x = played("a=3;b=4;c=a+b;d=c*c;e=e+e;f=d+c;");
+        RememberedCells x = Scenes.played("a=3;b=4;c=a+b;d=c*c;e=e+e;f=d+c;");
         due("cost of a value", x.cost(0, 0) + x.cost(0, 1) + x.cost(0, 2), 0);
         due("to be worked out", x.cost(3, 0), 2);
         due("to be kept", x.cost(3, 1), 0);
@@ -472,18 +447,18 @@ public final class PromisesTest {
         for (int bad : NO_CELLS) {
             refused("cost(" + bad + ", 0)", c -> c.cost(bad, 0), INVALID);
         }
-        due("cost of too great", played("a=99999;b=a*a;").cost(1, 0), 1);
+        due("cost of too great", Scenes.played("a=99999;b=a*a;").cost(1, 0), 1);
     }
 
     private void questions() {
-        RememberedCells asked = rich();
-        RememberedCells other = rich();
+        RememberedCells asked = Scenes.rich();
+        RememberedCells other = Scenes.rich();
         String once = Look.at(asked);
         asked.would(0, 5, 2);
         asked.would(3, 5, 4);
         asked.would(5, 5, 5);
         checks.due("everything asked twice", Look.at(asked), once);
-        asked = rich();
+        asked = Scenes.rich();
         asked.cost(2, 0);
         asked.fresh(2);
         asked.used(2);
@@ -497,7 +472,7 @@ public final class PromisesTest {
     private void forget() {
         refused("forget what is not remembered", c -> c.forget(5), IMPOSSIBLE);
         refused("forget a value", c -> c.forget(0), IMPOSSIBLE);
-        RememberedCells x = played("a=3;b=a+a;c=b+b;");
+        RememberedCells x = Scenes.played("a=3;b=a+a;c=b+b;");
         x.ask(2);
         due("forget(1)", x.forget(1), 1);
         due("forgotten", x.count(5), 1);
@@ -511,7 +486,7 @@ public final class PromisesTest {
     }
 
     private void forgottenMeanwhile() {
-        RememberedCells x = played("a=3;b=a+a;c=b+b;");
+        RememberedCells x = Scenes.played("a=3;b=a+a;c=b+b;");
         x.ask(2);
         x.forget(1);
         x.define(9, 1);
@@ -529,7 +504,7 @@ public final class PromisesTest {
     }
 
     private void bound() {
-        RememberedCells x = played("a=1;b=a+a;c=b+b;d=c+c;");
+        RememberedCells x = Scenes.played("a=1;b=a+a;c=b+b;d=c+c;");
         x.ask(3);
         due("bound(2)", x.bound(2), 10);
         due("nothing is forgotten yet", x.count(1), 3);
@@ -557,7 +532,7 @@ public final class PromisesTest {
     }
 
     private void rememberedOf() {
-        RememberedCells x = played("a=3;b=4;c=b-a;d=c?a:b;e=b+b;");
+        RememberedCells x = Scenes.played("a=3;b=4;c=b-a;d=c?a:b;e=b+b;");
         x.define(9, 1);
         x.ask(3);
         x.ask(4);
@@ -578,7 +553,7 @@ public final class PromisesTest {
         }
         due("rememberedOf(0, -1): invalid rather than not found", x.rememberedOf(0, -1), INVALID);
         due("rememberedOf(0, 7): invalid rather than not found", x.rememberedOf(0, 7), INVALID);
-        x = played("a=99999;b=a*a;c=b?d:e;");
+        x = Scenes.played("a=99999;b=a*a;c=b?d:e;");
         x.ask(2);
         due("one cell used", x.rememberedOf(2, 3), 1);
         due("the first one", x.rememberedOf(2, 4), 1);
@@ -586,7 +561,7 @@ public final class PromisesTest {
     }
 
     private void places() {
-        RememberedCells x = played("a=1;b=a+a;c=a*a;d=b+c;");
+        RememberedCells x = Scenes.played("a=1;b=a+a;c=a*a;d=b+c;");
         x.ask(3);
         due("b, c, d", x.rememberedOf(1, 6) * 100 + x.rememberedOf(2, 6) * 10 + x.rememberedOf(3, 6), 12);
         x.ask(1);
@@ -607,7 +582,7 @@ public final class PromisesTest {
     // ---- promises 11 to 15
 
     private void which() {
-        RememberedCells x = played("a=99999;b=a*a;c=c+a;d=c+b;e=a+a;f=b?c:c;g=a?e:c;");
+        RememberedCells x = Scenes.played("a=99999;b=a*a;c=c+a;d=c+b;e=a+a;f=b?c:c;g=a?e:c;");
         due("formulas", x.which(0), 126);
         due("none remembered", x.which(1), 0);
         x.ask(4);
@@ -629,7 +604,7 @@ public final class PromisesTest {
     }
 
     private void used() {
-        RememberedCells x = played("a=1;b=a+a;c=b?d:e;d=f+f;e=g+g;h=h+a;i=c-c;");
+        RememberedCells x = Scenes.played("a=1;b=a+a;c=b?d:e;d=f+f;e=g+g;h=h+a;i=c-c;");
         due("used by a value", x.used(0), 0);
         due("used for b", x.used(1), 1);
         due("used for c", x.used(2), 1 + 2 + 8 + 32);
@@ -652,13 +627,13 @@ public final class PromisesTest {
         x.define(0, 0);
         due("worked out afresh, e is chosen now", x.used(2), 1 + 2 + 16 + 64);
         due("and g used for c", x.usedBy(6), 4 + 16 + 256);
-        x = played("a=99999;b=a*a;c=b?d:e;f=b+d;");
+        x = Scenes.played("a=99999;b=a*a;c=b?d:e;f=b+d;");
         due("used for a choice by too great", x.used(2), 3);
         due("d is used for the sum alone", x.usedBy(3), 32);
     }
 
     private void would() {
-        RememberedCells x = played("a=1;b=a+a;c=b?d:e;d=7;e=e+a;f=b*b;");
+        RememberedCells x = Scenes.played("a=1;b=a+a;c=b?d:e;d=7;e=e+a;f=b*b;");
         x.ask(2);
         due("would a be 5, b", x.would(0, 5, 1), 10);
         due("would a be as it is, c", x.would(0, 1, 2), 7);
@@ -680,7 +655,7 @@ public final class PromisesTest {
     }
 
     private void count() {
-        RememberedCells x = played("a=1;b=a?c:d;e=b+b;");
+        RememberedCells x = Scenes.played("a=1;b=a?c:d;e=b+b;");
         x.ask(4);
         x.define(0, 2);
         x.ask(4);
@@ -702,22 +677,14 @@ public final class PromisesTest {
     // ---- promise 16
 
     private void undo() {
-        RememberedCells x = played("a=3;b=a+a;c=b+b;");
-        String[] seen = new String[4];
-        seen[0] = Look.at(x);
-        x.ask(2);
-        seen[1] = Look.at(x);
-        x.forget(1);
-        seen[2] = Look.at(x);
-        x.bound(0);
-        seen[3] = Look.at(x);
-        due("states", x.count(8), 4);
-        due("undo bound", x.undo(), 3);
-        checks.due("the state before bound", Look.at(x), seen[2]);
-        due("undo forget", x.undo(), 2);
-        checks.due("the state before forget", Look.at(x), seen[1]);
-        due("undo ask", x.undo(), 1);
-        checks.due("the state before ask", Look.at(x), seen[0]);
+        for (int left = 2; left >= 0; left--) {
+            RememberedCells undone = afterChanges(3);
+            for (int states = 3; states > left; states--) {
+                due("undo", undone.undo(), states);
+            }
+            checks.due("the state " + left + " behind play", Look.at(undone), Look.at(afterChanges(left)));
+        }
+        RememberedCells x = afterChanges(0);
         due("undo play", x.undo(), 0);
         due("undo nothing", x.undo(), IMPOSSIBLE);
         due("the revision", x.count(0), 0);
@@ -731,6 +698,21 @@ public final class PromisesTest {
         due("at its revision", x.count(0), 1);
         due("undo define", x.undo(), 0);
         due("0 again", x.cellOf(0, 1), 0);
+    }
+
+    /** A state behind play, and none, one, two or three changes more. */
+    private static RememberedCells afterChanges(int changes) {
+        RememberedCells x = Scenes.played("a=3;b=a+a;c=b+b;");
+        if (changes >= 1) {
+            x.ask(2);
+        }
+        if (changes >= 2) {
+            x.forget(1);
+        }
+        if (changes >= 3) {
+            x.bound(0);
+        }
+        return x;
     }
 
     private void history() {
@@ -761,10 +743,6 @@ public final class PromisesTest {
 
     // ---- promises 17 to 20
 
-    private static RememberedCells withFullText() {
-        return played("a=10;b=a+a;c=b+b;d=c+c;e=d+d;f=e+e;g=f+f;h=g+g;i=h+h;j=0001;");
-    }
-
     private void type() {
         RememberedCells x = new RememberedCells();
         due("type(32)", x.type(32), 1);
@@ -775,9 +753,9 @@ public final class PromisesTest {
         for (int length = 3; length <= 60; length++) {
             due("type('x')", x.type('x'), length);
         }
-        due("a full text can be whole", withFullText().fault(0), MISSING);
-        refused("type in a full text", PromisesTest::withFullText, c -> c.type('x'), LIMIT);
-        refused("invalid rather than the limit", PromisesTest::withFullText, c -> c.type(127), INVALID);
+        due("a full text can be whole", Scenes.withFullText().fault(0), MISSING);
+        refused("type in a full text", Scenes::withFullText, c -> c.type('x'), LIMIT);
+        refused("invalid rather than the limit", Scenes::withFullText, c -> c.type(127), INVALID);
         due("the length", x.count(9), 60);
         due("clearText()", x.clearText(), 60);
         due("the length then", x.count(9), 0);
@@ -788,7 +766,7 @@ public final class PromisesTest {
 
     private void fault(String text, int position, int cause) {
         RememberedCells x = new RememberedCells();
-        write(x, text);
+        Scenes.write(x, text);
         due("fault(0) of " + text, x.fault(0), position);
         due("fault(1) of " + text, x.fault(1), cause);
     }
@@ -846,7 +824,7 @@ public final class PromisesTest {
         RememberedCells x = new RememberedCells();
         due("play() of nothing", x.play(), 0);
         due("it is a change", x.count(8), 1);
-        write(x, "a=5;b=-12;c=a+b;d=a-b;e=a*b;f=a^b;g=a?b:c;h=00012;i=-0;");
+        Scenes.write(x, "a=5;b=-12;c=a+b;d=a-b;e=a*b;f=a^b;g=a?b:c;h=00012;i=-0;");
         due("play()", x.play(), 8);
         due("one change", x.count(8), 2);
         int[] answers = {5, -12, -7, 17, -60, 5, -12, 12, 0, 0};
@@ -858,7 +836,7 @@ public final class PromisesTest {
         due("a change again", x.count(8), 3);
         x.ask(2);
         due("answers are kept by what is so already", x.play() * 10 + x.count(1), 81);
-        write(x, "a=6;a=5;");
+        Scenes.write(x, "a=6;a=5;");
         due("two definitions of one cell", x.play(), 10);
         due("c would be worked out", x.cost(2, 0), 1);
         due("and be the same", x.ask(2) * 10 + x.count(7), -69);
@@ -870,22 +848,22 @@ public final class PromisesTest {
         x.play();
         due("undo play() behind define", x.undo(), 3);
         due("the value that was defined", x.cellOf(0, 1), 77);
-        x = played("j=99999;i=-99999;");
+        x = Scenes.played("j=99999;i=-99999;");
         due("the greatest number", x.fresh(9), 99999);
         due("the least number", x.fresh(8), -99999);
     }
 
     private void playRefused() {
-        RememberedCells x = played("a=5;b=a+a;");
+        RememberedCells x = Scenes.played("a=5;b=a+a;");
         x.ask(1);
-        write(x, "a=6;b=7;c=d");
+        Scenes.write(x, "a=6;b=7;c=d");
         refused("play() with a fault", c -> c.play(), IMPOSSIBLE);
         x.type('+');
         x.type('a');
         x.type(';');
         due("play() of the whole text", x.play(), 5);
         due("d + a", x.fresh(2), 6);
-        write(x, "x");
+        Scenes.write(x, "x");
         due("play() with a fault at the beginning", x.play(), IMPOSSIBLE);
     }
 }
