@@ -1,12 +1,17 @@
+import java.io.IOException;
 import java.lang.reflect.Constructor;
 import java.lang.reflect.Field;
 import java.lang.reflect.Member;
 import java.lang.reflect.Method;
 import java.lang.reflect.Modifier;
+import java.nio.file.Files;
+import java.nio.file.Path;
 import java.util.ArrayList;
 import java.util.Arrays;
 import java.util.List;
 import java.util.TreeSet;
+import java.util.regex.Matcher;
+import java.util.regex.Pattern;
 
 /** The public face: the document's constants, constructor and methods, and nothing else that is not private. */
 public final class FaceTest {
@@ -18,11 +23,15 @@ public final class FaceTest {
     private static final List<String> CONSTANTS = List.of(
         "INVALID_ARGUMENT=-2000000001", "NOT_POSSIBLE=-2000000002", "LIMIT_REACHED=-2000000003",
         "NOT_FOUND=-2000000004");
+    private static final Path DOCUMENT = Path.of("../shared/DOC.md");
+    private static final Path SOURCE = Path.of("src/main/java/RememberedCells.java");
+    private static final Pattern CALL = Pattern.compile("    public int (\\w+)\\(.*");
+    private static final Pattern HEADING = Pattern.compile("    // (---- .*)");
 
     private FaceTest() {
     }
 
-    public static void main(String[] args) throws IllegalAccessException {
+    public static void main(String[] args) throws IllegalAccessException, IOException {
         Checks checks = new Checks();
         Class<?> face = RememberedCells.class;
         checks.isTrue("the class is public and final",
@@ -35,6 +44,7 @@ public final class FaceTest {
         checks.due("constants", openConstants(face).toString(), new TreeSet<>(CONSTANTS).toString());
         checkNestedClasses(checks, face);
         checkNames(checks, face);
+        checkHeadings(checks);
         checks.end();
     }
 
@@ -93,6 +103,43 @@ public final class FaceTest {
                 checks.isTrue(type.getName() + "." + method.getName() + " bears no name of a public method",
                     isFace || !open.contains(method.getName()));
             }
+        }
+    }
+
+    /** The document says which heading the interface has ahead of which calls; the source has them so, in its order. */
+    private static void checkHeadings(Checks checks) throws IOException {
+        List<String> told = new ArrayList<>();
+        String heading = "";
+        StringBuilder calls = new StringBuilder();
+        for (String line : Files.readAllLines(SOURCE)) {
+            Matcher headed = HEADING.matcher(line);
+            Matcher called = CALL.matcher(line);
+            if (headed.matches()) {
+                addHeading(told, calls, heading);
+                heading = headed.group(1);
+                calls.setLength(0);
+            } else if (called.matches()) {
+                calls.append(calls.length() == 0 ? "" : ", ").append('`').append(called.group(1)).append('`');
+            }
+        }
+        addHeading(told, calls, heading);
+        checks.due("headings", told.size(), 4);
+        if (!Files.exists(DOCUMENT)) {
+            System.out.println("no " + DOCUMENT + ", so the headings are not compared with it");
+            return;
+        }
+        String document = Files.readString(DOCUMENT);
+        int at = 0;
+        for (String sentence : told) {
+            int found = document.indexOf(sentence, at);
+            checks.isTrue("the document says behind the sentence before: " + sentence, found >= at);
+            at = Math.max(at, found);
+        }
+    }
+
+    private static void addHeading(List<String> told, StringBuilder calls, String heading) {
+        if (calls.length() > 0) {
+            told.add("Ahead of the calls " + calls + " the interface says: " + heading + ".\n");
         }
     }
 }
